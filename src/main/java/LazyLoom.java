@@ -33,7 +33,7 @@ public final class LazyLoom {
     private static final int SPARK_STEPS = 200;
     private static final int INLINED_NODES = 12;
 
-    /** 80 nodes hold fewer than 27 GLOBALs that are called, and each of these brings at most 11 nodes more. */
+    /** 80 nodes hold at most 26 calls of GLOBALs, three nodes each, and each brings at most 11 nodes more. */
     private static final int WORK_NODES = 400;
 
     /** Far above the turns that any loop here can need. */
@@ -581,7 +581,7 @@ public final class LazyLoom {
             int left = 1;
             waiting[0] = root;
             links[0] = NONE;
-            while (left > 0 && size < MOST_NODES) {
+            while (left > 0 && left <= waiting.length && size < MOST_NODES) {
                 left--;
                 int node = waiting[left];
                 int link = links[left];
@@ -739,7 +739,7 @@ public final class LazyLoom {
 
         Demand(Program now) {
             this.now = now;
-            walk = new Walk();
+            walk = new Walk(now.code);
             needs = new int[Program.CODE_NODES];
             lams = new int[GLOBALS];
             names = new int[GLOBALS];
@@ -885,12 +885,12 @@ public final class LazyLoom {
         private Tree tree;
         private int size;
 
-        Walk() {
+        Walk(Tree tree) {
             nodes = new int[WORK_NODES];
             bound = new int[WORK_NODES];
             isSealed = new boolean[WORK_NODES];
             isField = new boolean[WORK_NODES];
-            tree = null;
+            this.tree = tree;
             size = 0;
         }
 
@@ -988,12 +988,19 @@ public final class LazyLoom {
             this.demand = demand;
             this.rules = rules;
             work = new Tree(WORK_NODES);
-            walk = new Walk();
+            walk = new Walk(work);
             calls = new int[GLOBALS];
         }
 
         int rewrite(int pass, int global) {
-            prepare(pass, global);
+            work.clear();
+            bring(global, work.reserve(1));
+            if (pass == STRICTLY) {
+                demand.settle();
+            }
+            if (pass == INLINE) {
+                lookAtCalls();
+            }
             int written = 0;
             // Parts stand behind the nodes that have them; which of two parts comes first makes no difference.
             for (int node = now.sizeOf(global) - 1; node >= 0; node--) {
@@ -1013,16 +1020,9 @@ public final class LazyLoom {
             return written;
         }
 
-        private void prepare(int pass, int global) {
-            work.clear();
-            bring(global, work.reserve(1));
-            if (pass == STRICTLY) {
-                demand.settle();
-            }
-            if (pass == INLINE) {
-                for (int caller = 0; caller < GLOBALS; caller++) {
-                    calls[caller] = globalsIn(caller);
-                }
+        private void lookAtCalls() {
+            for (int caller = 0; caller < GLOBALS; caller++) {
+                calls[caller] = globalsIn(caller);
             }
         }
 
@@ -1369,7 +1369,8 @@ public final class LazyLoom {
             return record >= 0 && record < whats.length;
         }
 
-        private int take(int what, int node, int link, int centre, long one, long two) {
+        /** Writes a record where nothing that is kept stands, and returns its number. */
+        int make(int what, int node, int link, int centre, long one, long two) {
             while (next < stamps.length && stamps[next] == stamp) {
                 next++;
             }
@@ -1403,12 +1404,12 @@ public final class LazyLoom {
 
         /** The names of env and one more, which hides those of its own name. */
         int bind(int name, long thing, int env) {
-            return take(name, 0, env, 0, thing, Thing.NOTHING);
+            return make(name, 0, env, 0, thing, Thing.NOTHING);
         }
 
         long lookUp(int name, int env) {
             int at = env;
-            for (int turn = 0; turn < MANY_TURNS && has(at); turn++) {
+            for (int turn = 0; turn < MANY_TURNS && at >= 0 && at < whats.length; turn++) {
                 if (whats[at] == name) {
                     return ones[at];
                 }
@@ -1418,7 +1419,7 @@ public final class LazyLoom {
         }
 
         int makeCell() {
-            return take(Program.WAITING, 0, NONE, 0, Thing.NOTHING, Thing.NOTHING);
+            return make(Program.WAITING, 0, NONE, 0, Thing.NOTHING, Thing.NOTHING);
         }
 
         /** Tells a cell what is to be found for it, with which names around it, and at which centre. */
@@ -1443,10 +1444,6 @@ public final class LazyLoom {
             if (has(cell)) {
                 whats[cell] = state;
             }
-        }
-
-        int makeData(int tag, int fields, long first, long second) {
-            return take(tag, fields, NONE, 0, first, second);
         }
 
         /** The state of a cell, or the tag of data. */
@@ -1548,7 +1545,7 @@ public final class LazyLoom {
 
     /** Finds nodes, one turn after the other, and counts what is done. */
     private static final class Finder {
-        private static final int FIND = 0, GIVE = 1, TOSS = 2, REST = 3, DONE = 4;
+        private static final int FIND = 0, GIVE = 1, TOSS = 2, LEAVE = 3, REST = 4, DONE = 5;
 
         private final Heap heap;
         private final Frames frames;
@@ -1613,6 +1610,9 @@ public final class LazyLoom {
                         break;
                     case TOSS:
                         toss();
+                        break;
+                    case LEAVE:
+                        leave();
                         break;
                     default:
                         rest();
@@ -1717,7 +1717,7 @@ public final class LazyLoom {
             if (fields > 0 && first == Thing.NOTHING || fields > 1 && second == Thing.NOTHING) {
                 return Thing.NOTHING;
             }
-            return Thing.of(Thing.RECORD, heap.makeData(code.numberOf(value), fields, first, second));
+            return Thing.of(Thing.RECORD, heap.make(code.numberOf(value), fields, NONE, 0, first, second));
         }
 
         /** What an atom is as it stands, without a step. */
@@ -1952,13 +1952,19 @@ public final class LazyLoom {
 
         /** Ends the run, or the spark, which no CATCH holds. */
         private void stop(int how) {
-            for (int turn = 0; turn < MANY_TURNS && frames.pop(); turn++) {
-                uncolour();
-            }
             if (!isSpark) {
                 result = how;
             }
-            mode = REST;
+            mode = LEAVE;
+        }
+
+        /** Goes back over one frame, of whatever kind. */
+        private void leave() {
+            if (frames.pop()) {
+                uncolour();
+            } else {
+                mode = REST;
+            }
         }
 
         private void endWith(long thing) {

@@ -43,6 +43,11 @@ final class Check {
         System.out.println("  " + what);
     }
 
+    /** Notes that so many answers were as due. */
+    static void alike(int answers) {
+        looked += answers;
+    }
+
     static int wrongs() {
         return wrong;
     }

@@ -18,7 +18,7 @@ public final class OracleTest {
 
     private OracleTest(Pair pair) {
         this.pair = pair;
-        names = 2 + random(4);
+        names = random(6) == 0 ? 16 : 2 + random(4);
         isWild = random(4) == 0;
         java.util.Arrays.fill(scope, -1);
     }
@@ -32,14 +32,18 @@ public final class OracleTest {
     public static void main(String[] args) {
         for (int i = 0; i < PROGRAMS; i++) {
             seed = 1000003L * i + 17;
-            new OracleTest(new Pair("program " + i)).goThrough();
+            Pair pair = new Pair("program " + i);
+            new OracleTest(pair).goThrough();
+            Check.alike(pair.calls);
             if (Check.wrongs() > 3) {
                 break;
             }
         }
         for (int i = 0; i < MESSES; i++) {
             seed = 7777777L * i + 5;
-            mess(new Pair("mess " + i));
+            Pair pair = new Pair("mess " + i);
+            mess(pair);
+            Check.alike(pair.calls);
             if (Check.wrongs() > 3) {
                 break;
             }
@@ -62,12 +66,14 @@ public final class OracleTest {
 
     private void goThrough() {
         int globals = 2 + random(7);
+        boolean hasLarge = random(4) == 0;
         for (int g = 0; g < globals; g++) {
             lams[g] = random(3);
             types[g] = random(4) == 0 ? DATA : NUMBERS;
         }
         for (int g = 0; g < globals; g++) {
-            define(g, globals, 185 / globals);
+            int small = hasLarge ? 110 / globals : 185 / globals;
+            define(g, globals, hasLarge && g == 0 ? 75 : hasLarge ? Math.min(9, small) : small);
         }
         for (int g = 0; g < 8; g++) {
             pair.lookAtGlobal(g);
@@ -145,6 +151,9 @@ public final class OracleTest {
             return leaf(type, globals);
         }
         int left = budget - 1;
+        if (left > 20 && random(3) == 0) {
+            return pair.seq(tell(type, left / 2, globals), tell(type, left / 2, globals));
+        }
         switch (random(16)) {
             case 0:
             case 1:

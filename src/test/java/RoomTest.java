@@ -1,0 +1,96 @@
+import com.sun.management.ThreadMXBean;
+import java.lang.management.ManagementFactory;
+
+/** How much an object and its 512 calls make: rows are made by the constructor and used again. */
+public final class RoomTest {
+    private static final ThreadMXBean THREADS = (ThreadMXBean) ManagementFactory.getThreadMXBean();
+    private static final long OBJECT_BYTES = 200000, CALL_BYTES = 100, GROWN_BYTES = 12000000,
+        LONG_BYTES = 300000;
+
+    public static void main(String[] args) {
+        // Twice, so that what Java itself makes at first is behind us.
+        for (int turn = 0; turn < 2; turn++) {
+            boolean isSecond = turn == 1;
+            LazyLoom loom = loom(isSecond);
+            runs(isSecond, loom);
+            passes(isSecond, loom);
+            growing(isSecond);
+            endless(isSecond);
+        }
+        Check.end("RoomTest");
+    }
+
+    private static long made() {
+        return THREADS.getThreadAllocatedBytes(Thread.currentThread().getId());
+    }
+
+    private static void atMost(boolean isCounted, String what, long bytes, long most) {
+        if (isCounted) {
+            System.out.println("  " + what + ": " + bytes + " bytes");
+            Check.due(what + " is at most " + most, bytes <= most ? 0 : bytes, 0);
+        }
+    }
+
+    private static LazyLoom loom(boolean isCounted) {
+        long ahead = made();
+        LazyLoom loom = new LazyLoom();
+        atMost(isCounted, "an object", made() - ahead, OBJECT_BYTES);
+        Words.define(loom, 0, "(lam x0 (lam x1 (if x0 (let x2 (- x0 1) (let x3 (+ x0 x1) (par x3 "
+            + "(app (app g0 x2) x3)))) x1)))");
+        Words.define(loom, 1, "(app (lam x0 (+ x0 (+ 1 2))) 4)");
+        loom.begin();
+        return loom;
+    }
+
+    private static void runs(boolean isCounted, LazyLoom loom) {
+        loom.run(0, 2, 60, 0, 0, true);
+        long ahead = made();
+        for (int i = 0; i < 450; i++) {
+            loom.run(0, 2, 10 + i % 40, 0, 0, i % 2 == 0);
+            loom.plainly(0, 2, 5, 0, true);
+            loom.value();
+        }
+        atMost(isCounted, "900 runs", made() - ahead, CALL_BYTES * 900);
+    }
+
+    private static void passes(boolean isCounted, LazyLoom loom) {
+        long ahead = made();
+        for (int i = 0; i < 500; i++) {
+            loom.pass(i % 9, i % 2);
+            loom.needed(0, 1);
+            loom.size(0, false);
+        }
+        atMost(isCounted, "500 passes", made() - ahead, CALL_BYTES * 500);
+    }
+
+    /** Data that stays from run to run, more with each: a tree whose branches are found as the numbers say. */
+    private static void growing(boolean isCounted) {
+        LazyLoom loom = new LazyLoom();
+        Words.define(loom, 0, "(app g1 1)");
+        Words.define(loom, 1, "(lam x0 (let x1 (* x0 2) (let x2 (+ x1 1) (let x3 (app g1 x1) (let x4 (app g1 x2) "
+            + "(con 1 x3 x4))))))");
+        Words.define(loom, 2, "(lam x0 (app (app g3 x0) g0))");
+        Words.define(loom, 3, "(lam x0 (lam x1 (match x1 1 x2 x3 (if x0 (let x4 (/ x0 2) (if (- x0 (* x4 2)) "
+            + "(app (app g3 x4) x2) (app (app g3 x4) x3))) 7) 8)))");
+        long ahead = made();
+        for (int i = 0; i < 500; i++) {
+            loom.run(2, 1, 1000000 + i * 7919, 0, 0, false);
+        }
+        atMost(isCounted, "data that grows", made() - ahead, GROWN_BYTES);
+        Check.due("it is found", loom.value(), 7);
+    }
+
+    /** The dearest run: 600 steps, and four sparks with 200 each. */
+    private static void endless(boolean isCounted) {
+        LazyLoom loom = new LazyLoom();
+        Words.define(loom, 0, "(lam x0 (let x1 (con 1 x0 x0) (let x2 (con 2 x1 x1) (app g0 x2))))");
+        Words.define(loom, 1, "(let x0 (app g0 1) (let x1 (app g0 1) (let x2 (app g0 1) (let x3 (app g0 1) "
+            + "(par x0 (par x1 (par x2 (par x3 5))))))))");
+        long ahead = made();
+        for (int i = 0; i < 250; i++) {
+            Check.due("endless", loom.run(0, 1, 1, 0, 0, false), LazyLoom.ENDLESS);
+            Check.due("sparks", loom.run(1, 0, 0, 0, 0, false), LazyLoom.NUMBER);
+        }
+        atMost(isCounted, "long runs", made() - ahead, LONG_BYTES);
+    }
+}
