@@ -444,7 +444,9 @@ public final class LazyLoom {
                 numbers[node] = number;
                 names[node] = name;
                 others[node] = other;
-                Arrays.fill(parts, PARTS * node, PARTS * node + PARTS, NONE);
+                parts[PARTS * node] = NONE;
+                parts[PARTS * node + 1] = NONE;
+                parts[PARTS * node + 2] = NONE;
             }
         }
 

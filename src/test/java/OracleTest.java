@@ -1,6 +1,9 @@
-/** Runs of random calls, in which LazyLoom must answer as Naive does. */
+/**
+ * Runs of random calls, in which LazyLoom must answer as Naive does; and the aim of the document, that what passes make
+ * has a value whenever what was ahead of them has one, the same, with no more cells.
+ */
 public final class OracleTest {
-    private static final int PROGRAMS = 2500, MESSES = 400;
+    private static final int PROGRAMS = 2500, MESSES = 400, AIMS = 400;
     private static final int NUMBERS = 0, DATA = 1, FUNCTIONS = 2;
 
     private static long seed;
@@ -48,6 +51,12 @@ public final class OracleTest {
                 break;
             }
         }
+        for (int i = 0; i < AIMS && Check.wrongs() <= 3; i++) {
+            seed = 424243L * i + 11;
+            Pair pair = new Pair("aim " + i);
+            new OracleTest(pair).aim();
+            Check.alike(pair.calls);
+        }
         tell("ends", ends);
         tell("written by passes", passes);
         tell("too large", tooLarge);
@@ -88,6 +97,37 @@ public final class OracleTest {
         int turns = 10 + random(50);
         for (int turn = 0; turn < turns && !pair.isApart(); turn++) {
             doSomething(globals);
+        }
+    }
+
+    /** FUSE stays away, since a rule makes what it says, whether that is the same or not. */
+    private void aim() {
+        int globals = 2 + random(7);
+        for (int g = 0; g < globals; g++) {
+            lams[g] = random(3);
+            types[g] = random(4) == 0 ? DATA : NUMBERS;
+        }
+        for (int g = 0; g < globals; g++) {
+            define(g, globals, 185 / globals);
+        }
+        pair.begin();
+        for (int turn = 0; turn < 40; turn++) {
+            pair.pass(random(LazyLoom.FUSE), random(globals));
+        }
+        for (int g = 0; g < globals; g++) {
+            for (int turn = 0; turn < 3; turn++) {
+                int a = random(12) - 2;
+                int b = random(12) - 2;
+                int how = pair.plainly(g, lams[g], a, b, true);
+                int value = pair.value();
+                int cells = pair.count(1);
+                int howNow = pair.plainly(g, lams[g], a, b, false);
+                if (how == LazyLoom.NUMBER || how == LazyLoom.FUNCTION || how == LazyLoom.DATA) {
+                    Check.due("aim: how it ends", howNow, how);
+                    Check.due("aim: its value", pair.value(), value);
+                    Check.due("aim: no more cells", pair.count(1) <= cells ? 1 : 0, 1);
+                }
+            }
         }
     }
 
