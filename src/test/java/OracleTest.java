@@ -6,6 +6,9 @@ public final class OracleTest {
     private static final int PROGRAMS = 2500, MESSES = 400, AIMS = 400;
     private static final int NUMBERS = 0, DATA = 1, FUNCTIONS = 2;
 
+    private static final int[] EXTREMES = {Integer.MIN_VALUE, Integer.MIN_VALUE + 1, Integer.MAX_VALUE,
+        Integer.MAX_VALUE / 80, Integer.MIN_VALUE / 80, 1 << 26, 79, 80, 199, 200, 600, 601, 640};
+
     private static long seed;
     private static final int[] ends = new int[8];
     private static final int[] passes = new int[9];
@@ -348,6 +351,9 @@ public final class OracleTest {
     // ---- calls that make no sense
 
     private static int about(int end) {
+        if (random(60) == 0) {
+            return EXTREMES[random(EXTREMES.length)];
+        }
         return random(7) == 0 ? random(end + 4) - 2 : random(end);
     }
 
