@@ -1303,6 +1303,9 @@ public final class LazyLoom {
     private static final class Heap {
         private static final int FIRST_RECORDS = 512;
 
+        /** A turn makes at most a cell, its name, and data for it. */
+        private static final int RECORDS_OF_A_TURN = 3;
+
         private final Program now;
         private final Program begun;
         private int[] whats;
@@ -1316,6 +1319,7 @@ public final class LazyLoom {
         private int queued;
         private int stamp;
         private int next;
+        private int left;
 
         Heap(Program now, Program begun) {
             this.now = now;
@@ -1331,6 +1335,7 @@ public final class LazyLoom {
             queued = 0;
             stamp = 0;
             next = 0;
+            left = FIRST_RECORDS;
         }
 
         /** Stamps what the cells of the globals lead to, which stays; all else is free for the run that begins. */
@@ -1350,6 +1355,7 @@ public final class LazyLoom {
                     keepRecord(links[record]);
                 }
             }
+            left = whats.length - queued;
         }
 
         private void keep(long thing) {
@@ -1376,11 +1382,9 @@ public final class LazyLoom {
             while (next < stamps.length && stamps[next] == stamp) {
                 next++;
             }
-            if (next >= whats.length) {
-                grow();
-            }
             int record = next;
             next++;
+            left--;
             if (has(record)) {
                 whats[record] = what;
                 nodes[record] = node;
@@ -1392,7 +1396,12 @@ public final class LazyLoom {
             return record;
         }
 
-        private void grow() {
+        /** Sees to it ahead of a turn that there is place for all that it makes. */
+        void makePlace() {
+            if (left >= RECORDS_OF_A_TURN) {
+                return;
+            }
+            left += whats.length;
             int length = 2 * whats.length;
             whats = Arrays.copyOf(whats, length);
             nodes = Arrays.copyOf(nodes, length);
@@ -1603,6 +1612,7 @@ public final class LazyLoom {
             answer = 0;
             goTo(root);
             for (int turn = 0; turn < MANY_TURNS && mode != DONE; turn++) {
+                heap.makePlace();
                 switch (mode) {
                     case FIND:
                         step();
