@@ -24,6 +24,7 @@ public final class LazyLoom {
     private static final int OPERATIONS = 5;
     private static final int ADDS = 0, TAKES = 1, MULTIPLIES = 2, IS_LESS = 3, DIVIDES = 4;
     private static final int PASSES = 9;
+    private static final int MOST_CALLS = 512;
     private static final int MOST_TOLD = 200;
     private static final int MOST_NODES = 80;
     private static final int MOST_RULES = 8;
@@ -523,8 +524,6 @@ public final class LazyLoom {
 
     /** The expressions of the globals, each in preorder in its own stretch of the code, and their cells. */
     private static final class Program {
-        static final int WAITING = 0, BLACK = 1, FOUND = 2;
-
         private static final int CALLS = GLOBALS * MOST_NODES;
         private static final int CALL_NODES = 2 * MOST_NUMBERS + 1;
 
@@ -609,7 +608,7 @@ public final class LazyLoom {
 
         /** Empties the cells of all globals, since any of them may have been found by way of another. */
         void forget() {
-            Arrays.fill(states, WAITING);
+            Arrays.fill(states, Heap.WAITING);
             Arrays.fill(values, 0L);
         }
 
@@ -635,8 +634,17 @@ public final class LazyLoom {
             return CALLS + 2 * many;
         }
 
+        boolean hasFound() {
+            for (int global = 0; global < GLOBALS; global++) {
+                if (states[global] == Heap.FOUND) {
+                    return true;
+                }
+            }
+            return false;
+        }
+
         int stateOf(int global) {
-            return global >= 0 && global < GLOBALS ? states[global] : WAITING;
+            return global >= 0 && global < GLOBALS ? states[global] : Heap.WAITING;
         }
 
         long valueOf(int global) {
@@ -1299,189 +1307,189 @@ public final class LazyLoom {
         }
     }
 
-    /** Names with what they are, cells and data: records in rows, written again when nothing kept leads to them. */
+    /**
+     * Names with what they are, cells and data: a record each. A step makes at most one, so a run makes no more than
+     * a row holds, and a row that is made never moves.
+     */
     private static final class Heap {
-        private static final int FIRST_RECORDS = 512;
+        /** What a record is: a cell, found or not yet, one that is its own data, or names that are bound to things. */
+        static final int WAITING = 0, BLACK = 1, FOUND = 2, DATA = 3, BOUND = 4;
 
-        /** A turn makes at most a cell, its name, and data for it. */
-        private static final int RECORDS_OF_A_TURN = 3;
+        private static final int ROW_RECORDS = RUN_STEPS + MOST_SPARKS * SPARK_STEPS;
+        private static final int LONGS = 3;
+        private static final int ABOUT = 0, ONE = 1, TWO = 2;
+
+        /** A record's first long: the record behind it and one, a node, two names, a centre, and what it is. */
+        private static final int NODE_SHIFT = 20, NAME_SHIFT = 32, OTHER_SHIFT = 36, CENTRE_SHIFT = 40,
+            STATE_SHIFT = 42;
+        private static final int LINK_MASK = 0xFFFFF, NODE_MASK = 0xFFF, NAME_MASK = 0xF, CENTRE_MASK = 0x3;
 
         private final Program now;
         private final Program begun;
-        private int[] whats;
-        private int[] nodes;
-        private int[] links;
-        private int[] centres;
-        private int[] stamps;
-        private int[] queue;
-        private long[] ones;
-        private long[] twos;
-        private int queued;
-        private int stamp;
+        private final long[][] rows;
+        private int manyRows;
+        private int start;
         private int next;
-        private int left;
+        private boolean isKept;
 
         Heap(Program now, Program begun) {
             this.now = now;
             this.begun = begun;
-            whats = new int[FIRST_RECORDS];
-            nodes = new int[FIRST_RECORDS];
-            links = new int[FIRST_RECORDS];
-            centres = new int[FIRST_RECORDS];
-            stamps = new int[FIRST_RECORDS];
-            queue = new int[FIRST_RECORDS];
-            ones = new long[FIRST_RECORDS];
-            twos = new long[FIRST_RECORDS];
-            queued = 0;
-            stamp = 0;
+            rows = new long[MOST_CALLS][];
+            manyRows = 0;
+            start = 0;
             next = 0;
-            left = FIRST_RECORDS;
+            isKept = false;
         }
 
-        /** Stamps what the cells of the globals lead to, which stays; all else is free for the run that begins. */
-        void free() {
-            stamp++;
-            next = 0;
-            queued = 0;
-            for (int global = 0; global < GLOBALS; global++) {
-                keep(now.valueOf(global));
-                keep(begun.valueOf(global));
+        /** Sees to it ahead of a run that there is place for all that it can make. */
+        void prepare() {
+            if (!isKept) {
+                next = start;
             }
-            for (int i = 0; i < queued && i < queue.length; i++) {
-                int record = queue[i];
-                if (has(record)) {
-                    keep(ones[record]);
-                    keep(twos[record]);
-                    keepRecord(links[record]);
-                }
+            if (!now.hasFound() && !begun.hasFound()) {
+                next = 0;
             }
-            left = whats.length - queued;
+            if (manyRows * ROW_RECORDS - next < ROW_RECORDS) {
+                makeRow();
+            }
+            start = next;
+            isKept = false;
         }
 
-        private void keep(long thing) {
+        private void makeRow() {
+            if (manyRows < rows.length) {
+                rows[manyRows] = new long[LONGS * ROW_RECORDS];
+                manyRows++;
+            } else {
+                // Each run makes a row at most, so this is behind the last call that has an answer.
+                now.forget();
+                begun.forget();
+                next = 0;
+            }
+        }
+
+        /** What this run made stays behind it, if something that was there ahead of it has such a thing now. */
+        void keep(long thing) {
             int sort = Thing.sort(thing);
-            if (sort == Thing.LAMBDA || sort == Thing.RECORD || sort == Thing.CELL) {
-                keepRecord(Thing.low(thing));
+            if ((sort == Thing.LAMBDA || sort == Thing.RECORD) && Thing.low(thing) >= start) {
+                isKept = true;
             }
         }
 
-        private void keepRecord(int record) {
-            if (has(record) && stamps[record] != stamp && queued < queue.length) {
-                stamps[record] = stamp;
-                queue[queued] = record;
-                queued++;
-            }
-        }
-
-        boolean has(int record) {
-            return record >= 0 && record < whats.length;
-        }
-
-        /** Writes a record where nothing that is kept stands, and returns its number. */
-        int make(int what, int node, int link, int centre, long one, long two) {
-            while (next < stamps.length && stamps[next] == stamp) {
-                next++;
-            }
+        private int make(long about, long one, long two) {
             int record = next;
-            next++;
-            left--;
-            if (has(record)) {
-                whats[record] = what;
-                nodes[record] = node;
-                links[record] = link;
-                centres[record] = centre;
-                ones[record] = one;
-                twos[record] = two;
+            long[] row = record < manyRows * ROW_RECORDS ? rows[record / ROW_RECORDS] : null;
+            if (row == null) {
+                return NONE;
             }
+            int at = LONGS * (record % ROW_RECORDS);
+            row[at + ABOUT] = about;
+            row[at + ONE] = one;
+            row[at + TWO] = two;
+            next++;
             return record;
         }
 
-        /** Sees to it ahead of a turn that there is place for all that it makes. */
-        void makePlace() {
-            if (left >= RECORDS_OF_A_TURN) {
-                return;
+        private static long about(int link, int name, int other, int state) {
+            return (long) state << STATE_SHIFT | (long) other << OTHER_SHIFT | (long) name << NAME_SHIFT | link + 1;
+        }
+
+        private long get(int record, int which) {
+            long[] row = record >= 0 && record < next ? rows[record / ROW_RECORDS] : null;
+            return row == null ? 0L : row[LONGS * (record % ROW_RECORDS) + which];
+        }
+
+        private void put(int record, int which, long bits) {
+            long[] row = record >= 0 && record < next ? rows[record / ROW_RECORDS] : null;
+            if (row != null) {
+                row[LONGS * (record % ROW_RECORDS) + which] = bits;
             }
-            left += whats.length;
-            int length = 2 * whats.length;
-            whats = Arrays.copyOf(whats, length);
-            nodes = Arrays.copyOf(nodes, length);
-            links = Arrays.copyOf(links, length);
-            centres = Arrays.copyOf(centres, length);
-            stamps = Arrays.copyOf(stamps, length);
-            queue = Arrays.copyOf(queue, length);
-            ones = Arrays.copyOf(ones, length);
-            twos = Arrays.copyOf(twos, length);
         }
 
         /** The names of env and one more, which hides those of its own name. */
         int bind(int name, long thing, int env) {
-            return make(name, 0, env, 0, thing, Thing.NOTHING);
+            return make(about(env, name, name, BOUND), thing, thing);
+        }
+
+        /** The names of env and those of two fields; that of the second one hides that of the first one. */
+        int bindFields(int name, int other, int data, int env) {
+            return make(about(env, name, other, BOUND), get(data, ONE), get(data, TWO));
+        }
+
+        /** The names of env and one more, whose cell that is; a node is to be found for it with all these names. */
+        int makeCell(int name, int node, int centre, int env) {
+            long spot = (long) centre << CENTRE_SHIFT | (long) node << NODE_SHIFT;
+            return make(about(env, name, name, WAITING) | spot, Thing.NOTHING, Thing.NOTHING);
+        }
+
+        /** Data that a CON is, in the record of the cell that has it, or in one of its own for NONE. */
+        long makeData(int cell, int con, long first, long second) {
+            int record = cell;
+            if (cell == NONE) {
+                record = make(about(NONE, 0, 0, DATA) | (long) con << NODE_SHIFT, first, second);
+            } else {
+                colour(cell, DATA);
+                put(cell, ONE, first);
+                put(cell, TWO, second);
+            }
+            return Thing.of(Thing.RECORD, record);
         }
 
         long lookUp(int name, int env) {
             int at = env;
-            for (int turn = 0; turn < MANY_TURNS && at >= 0 && at < whats.length; turn++) {
-                if (whats[at] == name) {
-                    return ones[at];
+            for (int turn = 0; turn < MANY_TURNS && at >= 0 && at < next; turn++) {
+                long[] row = rows[at / ROW_RECORDS];
+                if (row == null) {
+                    break;
                 }
-                at = links[at];
+                int first = LONGS * (at % ROW_RECORDS);
+                long about = row[first + ABOUT];
+                if ((about >> OTHER_SHIFT & NAME_MASK) == name) {
+                    return about >> STATE_SHIFT == BOUND ? row[first + TWO] : Thing.of(Thing.CELL, at);
+                }
+                if ((about >> NAME_SHIFT & NAME_MASK) == name) {
+                    return row[first + ONE];
+                }
+                at = (int) (about & LINK_MASK) - 1;
             }
             return Thing.NOTHING;
         }
 
-        int makeCell() {
-            return make(Program.WAITING, 0, NONE, 0, Thing.NOTHING, Thing.NOTHING);
+        int stateOf(int cell) {
+            return (int) (get(cell, ABOUT) >> STATE_SHIFT);
         }
 
-        /** Tells a cell what is to be found for it, with which names around it, and at which centre. */
-        void delay(int cell, int node, int env, int centre) {
-            if (has(cell)) {
-                nodes[cell] = node;
-                links[cell] = env;
-                centres[cell] = centre;
-            }
+        boolean isFound(int cell) {
+            int state = stateOf(cell);
+            return state == FOUND || state == DATA;
         }
 
-        void fill(int cell, long thing) {
-            if (has(cell)) {
-                whats[cell] = Program.FOUND;
-                ones[cell] = thing;
-                // What was around it would stay for nothing.
-                links[cell] = NONE;
-            }
+        /** What a cell has that was found. */
+        long valueOf(int cell) {
+            return stateOf(cell) == DATA ? Thing.of(Thing.RECORD, cell) : get(cell, ONE);
+        }
+
+        /** What is to be found for a cell, or the CON that data is. */
+        int nodeOf(int record) {
+            return (int) (get(record, ABOUT) >> NODE_SHIFT) & NODE_MASK;
+        }
+
+        int centreOf(int cell) {
+            return (int) (get(cell, ABOUT) >> CENTRE_SHIFT) & CENTRE_MASK;
         }
 
         void colour(int cell, int state) {
-            if (has(cell)) {
-                whats[cell] = state;
+            long rest = get(cell, ABOUT) & (1L << STATE_SHIFT) - 1;
+            put(cell, ABOUT, (long) state << STATE_SHIFT | rest);
+        }
+
+        void fill(int cell, long thing) {
+            colour(cell, FOUND);
+            put(cell, ONE, thing);
+            if (cell < start) {
+                keep(thing);
             }
-        }
-
-        /** The state of a cell, or the tag of data. */
-        int whatOf(int record) {
-            return has(record) ? whats[record] : NONE;
-        }
-
-        /** What is to be found for a cell, or how many fields data has. */
-        int nodeOf(int record) {
-            return has(record) ? nodes[record] : 0;
-        }
-
-        int linkOf(int record) {
-            return has(record) ? links[record] : NONE;
-        }
-
-        int centreOf(int record) {
-            return has(record) ? centres[record] : 0;
-        }
-
-        /** What a cell has, or the first field of data. */
-        long oneOf(int record) {
-            return has(record) ? ones[record] : Thing.NOTHING;
-        }
-
-        long twoOf(int record) {
-            return has(record) ? twos[record] : Thing.NOTHING;
         }
     }
 
@@ -1556,7 +1564,7 @@ public final class LazyLoom {
 
     /** Finds nodes, one turn after the other, and counts what is done. */
     private static final class Finder {
-        private static final int FIND = 0, GIVE = 1, TOSS = 2, LEAVE = 3, REST = 4, DONE = 5;
+        private static final int FIND = 0, LOOK = 1, GIVE = 2, TOSS = 3, LEAVE = 4, REST = 5, DONE = 6;
 
         private final Heap heap;
         private final Frames frames;
@@ -1596,7 +1604,7 @@ public final class LazyLoom {
         }
 
         int find(Program program, int root, boolean isShared, int interrupt) {
-            heap.free();
+            heap.prepare();
             frames.clear();
             Arrays.fill(counts, 0);
             this.program = program;
@@ -1612,10 +1620,12 @@ public final class LazyLoom {
             answer = 0;
             goTo(root);
             for (int turn = 0; turn < MANY_TURNS && mode != DONE; turn++) {
-                heap.makePlace();
                 switch (mode) {
                     case FIND:
                         step();
+                        break;
+                    case LOOK:
+                        lookAt(found);
                         break;
                     case GIVE:
                         give();
@@ -1637,6 +1647,11 @@ public final class LazyLoom {
         private void goTo(int part) {
             node = part;
             mode = FIND;
+        }
+
+        private void goToThing(long thing) {
+            found = thing;
+            mode = LOOK;
         }
 
         private void giveBack(long thing) {
@@ -1668,13 +1683,13 @@ public final class LazyLoom {
                 case Kind.NUM:
                 case Kind.LAM:
                 case Kind.CON:
-                    giveBack(valueOf(node, env));
+                    giveBack(valueOf(node, env, NONE));
                     break;
                 case Kind.VAR:
-                    lookAt(heap.lookUp(program.code.nameOf(node), env));
+                    goToThing(heap.lookUp(program.code.nameOf(node), env));
                     break;
                 case Kind.GLOBAL:
-                    lookAtOwn(program.code.numberOf(node));
+                    goToThing(Thing.of(Thing.GLOBAL, program.code.numberOf(node)));
                     break;
                 case Kind.LET:
                     makeLet();
@@ -1705,8 +1720,8 @@ public final class LazyLoom {
             }
         }
 
-        /** What a NUM, LAM or CON is; NOTHING, if a field of it is. */
-        private long valueOf(int value, int around) {
+        /** What a NUM, LAM or CON is, also as the value of a cell, or NONE; NOTHING, if a field of it is. */
+        private long valueOf(int value, int around, int cell) {
             Tree code = program.code;
             int kind = code.kindOf(value);
             if (kind == Kind.NUM) {
@@ -1715,21 +1730,17 @@ public final class LazyLoom {
             if (kind == Kind.LAM) {
                 return Thing.lambda(value, around);
             }
-            int fields = 0;
-            long first = Thing.NOTHING;
-            long second = Thing.NOTHING;
-            if (code.part(value, 0) != NONE) {
-                fields = 1;
-                first = atom(code.part(value, 0), around);
-            }
-            if (code.part(value, 1) != NONE) {
-                fields = 2;
-                second = atom(code.part(value, 1), around);
-            }
+            int fields = fieldsOf(value);
+            long first = fields > 0 ? atom(code.part(value, 0), around) : Thing.NOTHING;
+            long second = fields > 1 ? atom(code.part(value, 1), around) : Thing.NOTHING;
             if (fields > 0 && first == Thing.NOTHING || fields > 1 && second == Thing.NOTHING) {
                 return Thing.NOTHING;
             }
-            return Thing.of(Thing.RECORD, heap.make(code.numberOf(value), fields, NONE, 0, first, second));
+            return heap.makeData(cell, value, first, second);
+        }
+
+        private int fieldsOf(int con) {
+            return (program.code.part(con, 0) == NONE ? 0 : 1) + (program.code.part(con, 1) == NONE ? 0 : 1);
         }
 
         /** What an atom is as it stands, without a step. */
@@ -1756,38 +1767,37 @@ public final class LazyLoom {
         }
 
         private void lookAtCell(int cell) {
-            int state = heap.whatOf(cell);
-            if (state == Program.FOUND) {
-                giveBack(heap.oneOf(cell));
+            if (heap.isFound(cell)) {
+                giveBack(heap.valueOf(cell));
                 return;
             }
-            if (state == Program.BLACK) {
+            if (heap.stateOf(cell) == Heap.BLACK) {
                 stop(LOOP);
                 return;
             }
             if (isShared) {
-                heap.colour(cell, Program.BLACK);
+                heap.colour(cell, Heap.BLACK);
                 frames.push(Frames.CELL, cell, NONE, 0, 0);
             }
-            env = heap.linkOf(cell);
+            env = cell;
             centre = heap.centreOf(cell);
             goTo(heap.nodeOf(cell));
         }
 
         private void lookAtOwn(int global) {
             int root = program.rootOf(global);
-            int state = isShared ? program.stateOf(global) : Program.WAITING;
+            int state = isShared ? program.stateOf(global) : Heap.WAITING;
             if (program.sizeOf(global) == 0) {
                 stop(WRONG);
             } else if (Kind.isValue(program.code.kindOf(root))) {
-                giveBack(valueOf(root, NONE));
-            } else if (state == Program.FOUND) {
+                giveBack(valueOf(root, NONE, NONE));
+            } else if (state == Heap.FOUND) {
                 giveBack(program.valueOf(global));
-            } else if (state == Program.BLACK) {
+            } else if (state == Heap.BLACK) {
                 stop(LOOP);
             } else {
                 if (isShared) {
-                    program.setCell(global, Program.BLACK, Thing.NOTHING);
+                    program.setCell(global, Heap.BLACK, Thing.NOTHING);
                     frames.push(Frames.OWN, global, NONE, 0, 0);
                 }
                 env = NONE;
@@ -1799,18 +1809,18 @@ public final class LazyLoom {
         private void makeLet() {
             Tree code = program.code;
             int e = code.part(node, 0);
-            int cell = heap.makeCell();
+            int kind = code.kindOf(e);
+            env = heap.makeCell(code.nameOf(node), e, centre, env);
             counts[CELLS]++;
-            env = heap.bind(code.nameOf(node), Thing.of(Thing.CELL, cell), env);
-            if (Kind.isValue(code.kindOf(e))) {
-                long thing = valueOf(e, env);
+            if (Kind.isValue(kind)) {
+                long thing = valueOf(e, env, env);
                 if (thing == Thing.NOTHING) {
                     stop(WRONG);
                     return;
                 }
-                heap.fill(cell, thing);
-            } else {
-                heap.delay(cell, e, env, centre);
+                if (kind != Kind.CON) {
+                    heap.fill(env, thing);
+                }
             }
             goTo(code.part(node, 1));
         }
@@ -1846,7 +1856,8 @@ public final class LazyLoom {
                     counts[UPDATES]++;
                     break;
                 case Frames.OWN:
-                    program.setCell(node, Program.FOUND, found);
+                    program.setCell(node, Heap.FOUND, found);
+                    heap.keep(found);
                     counts[UPDATES]++;
                     break;
                 case Kind.CATCH:
@@ -1891,13 +1902,12 @@ public final class LazyLoom {
                 return;
             }
             int data = Thing.low(found);
-            if (heap.whatOf(data) != program.code.numberOf(node)) {
+            if (program.code.numberOf(heap.nodeOf(data)) != program.code.numberOf(node)) {
                 goTo(program.code.part(node, 2));
                 return;
             }
-            // A field that is not there is NOTHING, which hides the name; y is bound last and hides x.
-            env = heap.bind(program.code.nameOf(node), heap.oneOf(data), env);
-            env = heap.bind(program.code.otherOf(node), heap.twoOf(data), env);
+            // A field that is not there is NOTHING, which hides its name all the same.
+            env = heap.bindFields(program.code.nameOf(node), program.code.otherOf(node), data, env);
             goTo(program.code.part(node, 1));
         }
 
@@ -1956,9 +1966,9 @@ public final class LazyLoom {
         /** Leaves the cell of the frame that was taken away, if it is one, as it was ahead. */
         private void uncolour() {
             if (frames.what() == Frames.CELL) {
-                heap.colour(frames.place(), Program.WAITING);
+                heap.colour(frames.place(), Heap.WAITING);
             } else if (frames.what() == Frames.OWN) {
-                program.setCell(frames.place(), Program.WAITING, Thing.NOTHING);
+                program.setCell(frames.place(), Heap.WAITING, Thing.NOTHING);
             }
         }
 
@@ -1984,18 +1994,18 @@ public final class LazyLoom {
             if (isSpark) {
                 return;
             }
-            int low = Thing.low(thing);
             switch (Thing.sort(thing)) {
                 case Thing.NUMERAL:
                     result = NUMBER;
-                    answer = low;
+                    answer = Thing.low(thing);
                     break;
                 case Thing.LAMBDA:
                     result = FUNCTION;
                     break;
                 default:
                     result = DATA;
-                    answer = 10 * heap.whatOf(low) + heap.nodeOf(low);
+                    int con = heap.nodeOf(Thing.low(thing));
+                    answer = 10 * program.code.numberOf(con) + fieldsOf(con);
                     break;
             }
         }
@@ -2015,16 +2025,16 @@ public final class LazyLoom {
                 counts[FIZZLED]++;
             } else {
                 counts[SPARKED]++;
-                lookAt(thing);
+                goToThing(thing);
             }
         }
 
         private boolean isFound(long thing) {
             int low = Thing.low(thing);
             if (Thing.sort(thing) == Thing.CELL) {
-                return heap.whatOf(low) == Program.FOUND;
+                return heap.isFound(low);
             }
-            return program.stateOf(low) == Program.FOUND
+            return program.stateOf(low) == Heap.FOUND
                 || program.sizeOf(low) > 0 && Kind.isValue(program.code.kindOf(program.rootOf(low)));
         }
     }

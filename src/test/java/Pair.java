@@ -2,7 +2,7 @@ import java.util.ArrayList;
 import java.util.List;
 
 /** A LazyLoom and a Naive beside it, which get the same calls and must answer alike. */
-final class Pair {
+final class Pair implements Nodes {
     static final int THROWN_INDEX = -1000000001, THROWN_ARGUMENT = -1000000002, THROWN_STATE = -1000000003,
         THROWN_OTHER = -1000000004;
 
@@ -56,64 +56,79 @@ final class Pair {
         return node;
     }
 
-    int num(int n) {
+    @Override
+    public int num(int n) {
         return node("num(" + n + ")", () -> loom.num(n), () -> naive.num(n));
     }
 
-    int var(int x) {
+    @Override
+    public int var(int x) {
         return node("var(" + x + ")", () -> loom.var(x), () -> naive.var(x));
     }
 
-    int global(int g) {
+    @Override
+    public int global(int g) {
         return node("global(" + g + ")", () -> loom.global(g), () -> naive.global(g));
     }
 
-    int lam(int x, int b) {
+    @Override
+    public int lam(int x, int b) {
         return node("lam(" + x + ", " + b + ")", () -> loom.lam(x, b), () -> naive.lam(x, b));
     }
 
-    int app(int f, int a) {
+    @Override
+    public int app(int f, int a) {
         return node("app(" + f + ", " + a + ")", () -> loom.app(f, a), () -> naive.app(f, a));
     }
 
-    int let(int x, int e, int b) {
+    @Override
+    public int let(int x, int e, int b) {
         return node("let(" + x + ", " + e + ", " + b + ")", () -> loom.let(x, e, b), () -> naive.let(x, e, b));
     }
 
-    int con(int t, int a, int b) {
+    @Override
+    public int con(int t, int a, int b) {
         return node("con(" + t + ", " + a + ", " + b + ")", () -> loom.con(t, a, b), () -> naive.con(t, a, b));
     }
 
-    int match(int e, int t, int x, int y, int b, int c) {
+    @Override
+    public int match(int e, int t, int x, int y, int b, int c) {
         return node("match(" + e + ", " + t + ", " + x + ", " + y + ", " + b + ", " + c + ")",
             () -> loom.match(e, t, x, y, b, c), () -> naive.match(e, t, x, y, b, c));
     }
 
-    int choose(int e, int b, int c) {
+    @Override
+    public int choose(int e, int b, int c) {
         return node("choose(" + e + ", " + b + ", " + c + ")", () -> loom.choose(e, b, c), () -> naive.choose(e, b, c));
     }
 
-    int prim(int o, int a, int b) {
+    @Override
+    public int prim(int o, int a, int b) {
         return node("prim(" + o + ", " + a + ", " + b + ")", () -> loom.prim(o, a, b), () -> naive.prim(o, a, b));
     }
 
-    int seq(int a, int b) {
+    @Override
+    public int seq(int a, int b) {
         return node("seq(" + a + ", " + b + ")", () -> loom.seq(a, b), () -> naive.seq(a, b));
     }
 
-    int raise(int a) {
+    @Override
+    public int raise(int a) {
         return node("raise(" + a + ")", () -> loom.raise(a), () -> naive.raise(a));
     }
 
-    int hold(int a, int x, int b) {
+    @Override
+    public int hold(int a, int x, int b) {
         return node("hold(" + a + ", " + x + ", " + b + ")", () -> loom.hold(a, x, b), () -> naive.hold(a, x, b));
     }
 
-    int par(int x, int b) {
+    @Override
+    public int par(int x, int b) {
         return node("par(" + x + ", " + b + ")", () -> loom.par(x, b), () -> naive.par(x, b));
     }
 
-    int centre(int c, int b) {
+    @Override
+    public int centre(int c, int b) {
         return node("centre(" + c + ", " + b + ")", () -> loom.centre(c, b), () -> naive.centre(c, b));
     }
 

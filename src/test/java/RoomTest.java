@@ -1,11 +1,14 @@
 import com.sun.management.ThreadMXBean;
 import java.lang.management.ManagementFactory;
 
-/** How much an object and its 512 calls make: rows are made by the constructor and used again. */
+/**
+ * How much an object and its 512 calls make: rows are made by the constructor and used again, but for what the cells
+ * of GLOBALs keep, for which a run makes at most one row more.
+ */
 public final class RoomTest {
     private static final ThreadMXBean THREADS = (ThreadMXBean) ManagementFactory.getThreadMXBean();
-    private static final long OBJECT_BYTES = 200000, CALL_BYTES = 100, GROWN_BYTES = 12000000,
-        LONG_BYTES = 300000;
+    private static final long OBJECT_BYTES = 120000, CALL_BYTES = 100, ROW_BYTES = 3 * 8 * 1400 + 16,
+        GROWN_BYTES = 80 * ROW_BYTES, KEPT_BYTES = 512 * ROW_BYTES, LONG_BYTES = 2 * ROW_BYTES, OTHER_BYTES = 300000;
 
     public static void main(String[] args) {
         // Twice, so that what Java itself makes at first is behind us.
@@ -15,6 +18,7 @@ public final class RoomTest {
             runs(isSecond, loom);
             passes(isSecond, loom);
             growing(isSecond);
+            keeping(isSecond);
             endless(isSecond);
         }
         Check.end("RoomTest");
@@ -78,6 +82,36 @@ public final class RoomTest {
         }
         atMost(isCounted, "data that grows", made() - ahead, GROWN_BYTES);
         Check.due("it is found", loom.value(), 7);
+    }
+
+    /** A tree whose branches have many names around them, of which runs find as many as they can, with sparks, too. */
+    private static void keeping(boolean isCounted) {
+        StringBuilder branches = new StringBuilder("(let x0 (app g0 0) (let x1 (app g0 0) (con 0 x0 x1)))");
+        for (int i = 0; i < 28; i++) {
+            branches = new StringBuilder("(let x5 (con 0) ").append(branches).append(')');
+        }
+        LazyLoom loom = new LazyLoom();
+        Words.define(loom, 0, "(lam x4 " + branches + ")");
+        Words.define(loom, 1, "(app g0 0)");
+        Words.define(loom, 2, "(lam x2 (lam x3 (match x2 0 x0 x1 (let x2 (+ x3 x3) (if (< x3 0) (app (app g2 x0) x2) "
+            + "(app (app g2 x1) x2))) 0)))");
+        Words.define(loom, 3, "(lam x0 (let x1 (* x0 7919) (let x2 (* x0 104729) (let x3 (* x0 1299709) (let x4 "
+            + "(* x0 15485863) (let x5 (app (app g2 g1) x1) (let x6 (app (app g2 g1) x2) (let x7 (app (app g2 g1) x3) "
+            + "(let x8 (app (app g2 g1) x4) (par x5 (par x6 (par x7 (par x8 0)))))))))))))");
+        Words.define(loom, 4, "(lam x0 (app (app g2 g1) x0))");
+        long ahead = made();
+        int cells = 0;
+        for (int i = 0; i < 511; i++) {
+            loom.run(i % 3 == 0 ? 3 : 4, 1, i * -1640531535, 0, 0, false);
+            cells += loom.count(1);
+        }
+        Check.due("there are many cells", cells > 140000 ? 1 : 0, 1);
+        atMost(isCounted, "cells that are kept", made() - ahead, KEPT_BYTES);
+        // What is answered then is free, but nothing more than a row for each of 512 calls is made.
+        for (int i = 0; i < 4000; i++) {
+            loom.run(i % 3 == 0 ? 3 : 4, 1, i * -1640531535 + 1, 0, 0, false);
+        }
+        atMost(isCounted, "all calls that may come", made() - ahead, KEPT_BYTES + OTHER_BYTES);
     }
 
     /** The dearest run: 600 steps, and four sparks with 200 each. */

@@ -76,37 +76,45 @@ final class Words {
         }
     }
 
-    private int part(LazyLoom loom, int which) {
-        return which < parts.size() ? parts.get(which).tell(loom) : LazyLoom.NONE;
+    private int part(Nodes nodes, int which) {
+        return which < parts.size() ? parts.get(which).tell(nodes) : LazyLoom.NONE;
     }
 
     /** Tells it, and returns its number. */
-    int tell(LazyLoom loom) {
-        int a = part(loom, 0);
-        int b = part(loom, 1);
-        int c = part(loom, 2);
+    int tell(Nodes nodes) {
+        int a = part(nodes, 0);
+        int b = part(nodes, 1);
+        int c = part(nodes, 2);
         switch (kind) {
-            case 0: return loom.num(number);
-            case 1: return loom.var(name);
-            case 2: return loom.global(number);
-            case 3: return loom.lam(name, a);
-            case 4: return loom.app(a, b);
-            case 5: return loom.let(name, a, b);
-            case 7: return loom.con(number, a, b);
-            case 8: return loom.match(a, number, name, other, b, c);
-            case 9: return loom.choose(a, b, c);
-            case 10: return loom.prim(number, a, b);
-            case 11: return loom.seq(a, b);
-            case 12: return loom.raise(a);
-            case 13: return loom.hold(a, name, b);
-            case 14: return loom.par(name, a);
-            case 15: return loom.centre(number, a);
+            case 0: return nodes.num(number);
+            case 1: return nodes.var(name);
+            case 2: return nodes.global(number);
+            case 3: return nodes.lam(name, a);
+            case 4: return nodes.app(a, b);
+            case 5: return nodes.let(name, a, b);
+            case 7: return nodes.con(number, a, b);
+            case 8: return nodes.match(a, number, name, other, b, c);
+            case 9: return nodes.choose(a, b, c);
+            case 10: return nodes.prim(number, a, b);
+            case 11: return nodes.seq(a, b);
+            case 12: return nodes.raise(a);
+            case 13: return nodes.hold(a, name, b);
+            case 14: return nodes.par(name, a);
+            case 15: return nodes.centre(number, a);
             default: throw new IllegalStateException("passes alone make a STRICT");
         }
     }
 
+    int tell(LazyLoom loom) {
+        return tell(new Nodes.Of(loom));
+    }
+
     static int define(LazyLoom loom, int global, String text) {
         return loom.define(global, of(text).tell(loom));
+    }
+
+    static int define(Pair pair, int global, String text) {
+        return pair.define(global, of(text).tell(pair));
     }
 
     /** The nodes in the order of their places, as node() tells them. */
