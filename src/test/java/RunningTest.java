@@ -1,11 +1,5 @@
 /** Promises 21 to 24: runs with sharing and without, their values and their counts. */
-public final class RunningTest {
-    private static final int NUMBER = LazyLoom.NUMBER, FUNCTION = LazyLoom.FUNCTION, DATA = LazyLoom.DATA,
-        RAISED = LazyLoom.RAISED, LOOP = LazyLoom.LOOP, WRONG = LazyLoom.WRONG, ENDLESS = LazyLoom.ENDLESS,
-        INTERRUPTED = LazyLoom.INTERRUPTED;
-
-    private static LazyLoom loom;
-
+public final class RunningTest extends Runs {
     public static void main(String[] args) {
         wrongCalls();
         numbers();
@@ -29,54 +23,6 @@ public final class RunningTest {
         sparkSteps();
         plainly();
         Check.end("RunningTest");
-    }
-
-    private static LazyLoom of(String... globals) {
-        loom = new LazyLoom();
-        for (int g = 0; g < globals.length; g++) {
-            Words.define(loom, g, globals[g]);
-        }
-        return loom;
-    }
-
-    private static void ends(String what, int got, int how, int value) {
-        Check.due(what, got, how);
-        Check.due(what + ": value", loom.value(), value);
-    }
-
-    /** Global 0 of a new loom, run with sharing. */
-    private static void run(int how, int value, String... globals) {
-        of(globals);
-        ends("promise 21: " + globals[0], loom.run(0, 0, 0, 0, 0, false), how, value);
-    }
-
-    /** Global 0 of a new loom, run without sharing. */
-    private static void plain(int how, int value, String... globals) {
-        of(globals);
-        ends("promise 22: " + globals[0], loom.plainly(0, 0, 0, 0, false), how, value);
-    }
-
-    private static void both(int how, int value, String... globals) {
-        run(how, value, globals);
-        plain(how, value, globals);
-    }
-
-    private static void counts(String what, int steps, int cells, int updates) {
-        Check.due("promise 24: steps: " + what, loom.count(0), steps);
-        Check.due("promise 24: cells: " + what, loom.count(1), cells);
-        Check.due("promise 24: updates: " + what, loom.count(2), updates);
-    }
-
-    private static void sparkCounts(String what, int steps, int fizzled, int found) {
-        Check.due("promise 24: steps of sparks: " + what, loom.count(3), steps);
-        Check.due("promise 24: FIZZLED: " + what, loom.count(4), fizzled);
-        Check.due("promise 24: sparks that were found: " + what, loom.count(5), found);
-    }
-
-    private static void centreCounts(String what, int... steps) {
-        for (int centre = 0; centre < 4; centre++) {
-            Check.due("promise 24: centre " + centre + ": " + what, loom.count(6 + centre), steps[centre]);
-        }
     }
 
     private static void wrongCalls() {
@@ -265,23 +211,6 @@ public final class RunningTest {
         ends("promise 21: cells are not black behind it", loom.run(2, 0, 0, 0, 0, false), LOOP, 0);
         counts("found as ahead", 7, 0, 0);
         run(NUMBER, 1, "(let x0 (con 1 x0) (match x0 1 x1 x2 (match x1 1 x3 x4 1 2) 3))");
-    }
-
-    /** Twenty calls of what takes so many steps, and 19 SEQs. */
-    private static String twentyCalls() {
-        StringBuilder calls = new StringBuilder("(app g1 5)");
-        for (int i = 0; i < 19; i++) {
-            calls = new StringBuilder("(seq (app g1 5) ").append(calls).append(')');
-        }
-        return calls.toString();
-    }
-
-    private static String seqs(int many) {
-        StringBuilder seqs = new StringBuilder("1");
-        for (int i = 0; i < many; i++) {
-            seqs = new StringBuilder("(seq 1 ").append(seqs).append(')');
-        }
-        return seqs.toString();
     }
 
     private static void endless() {
