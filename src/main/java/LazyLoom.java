@@ -48,7 +48,6 @@ public final class LazyLoom {
     private final int[] toldFree;
     private final Program now;
     private final Program begun;
-    private final Rules rules;
     private final Demand demand;
     private final Rewriter rewriter;
     private final Finder finder;
@@ -61,9 +60,8 @@ public final class LazyLoom {
         toldFree = new int[MOST_TOLD];
         now = new Program();
         begun = new Program();
-        rules = new Rules();
         demand = new Demand(now);
-        rewriter = new Rewriter(now, demand, rules);
+        rewriter = new Rewriter(now, demand);
         finder = new Finder(now, begun);
         hasBegun = false;
     }
@@ -217,10 +215,10 @@ public final class LazyLoom {
         checkRange(f, GLOBALS);
         checkRange(g, GLOBALS);
         checkRange(h, GLOBALS);
-        if (rules.isFull()) {
+        if (rewriter.hasAllRules()) {
             throw new IllegalStateException("there are 8 rules");
         }
-        return rules.add(f, g, h);
+        return rewriter.addRule(f, g, h);
     }
 
     /** Makes the program of now that of the beginning, and tells how many globals are something. */
@@ -659,45 +657,6 @@ public final class LazyLoom {
         }
     }
 
-    /** The rules, by which f of g is h. */
-    private static final class Rules {
-        private final int[] outer;
-        private final int[] inner;
-        private final int[] fused;
-        private int many;
-
-        Rules() {
-            outer = new int[MOST_RULES];
-            inner = new int[MOST_RULES];
-            fused = new int[MOST_RULES];
-            many = 0;
-        }
-
-        boolean isFull() {
-            return many >= MOST_RULES;
-        }
-
-        int add(int f, int g, int h) {
-            if (many < MOST_RULES) {
-                outer[many] = f;
-                inner[many] = g;
-                fused[many] = h;
-                many++;
-            }
-            return many;
-        }
-
-        /** What f of g is by the first rule of both; NONE without one. */
-        int of(int f, int g) {
-            for (int rule = 0; rule < many && rule < MOST_RULES; rule++) {
-                if (outer[rule] == f && inner[rule] == g) {
-                    return fused[rule];
-                }
-            }
-            return NONE;
-        }
-    }
-
     /** What names and cells hold: a number, a function, data, or whose cell it is; packed into a long. */
     private static final class Thing {
         static final long NOTHING = 0L;
@@ -988,18 +947,39 @@ public final class LazyLoom {
     private static final class Rewriter {
         private final Program now;
         private final Demand demand;
-        private final Rules rules;
         private final Tree work;
         private final Walk walk;
         private final int[] calls;
+        private final int[] outers;
+        private final int[] inners;
+        private final int[] fusions;
+        private int rules;
 
-        Rewriter(Program now, Demand demand, Rules rules) {
+        Rewriter(Program now, Demand demand) {
             this.now = now;
             this.demand = demand;
-            this.rules = rules;
             work = new Tree(WORK_NODES);
             walk = new Walk(work);
             calls = new int[GLOBALS];
+            outers = new int[MOST_RULES];
+            inners = new int[MOST_RULES];
+            fusions = new int[MOST_RULES];
+            rules = 0;
+        }
+
+        boolean hasAllRules() {
+            return rules >= MOST_RULES;
+        }
+
+        /** Adds a rule, by which f of g is h; returns how many there are then. */
+        int addRule(int f, int g, int h) {
+            if (rules < MOST_RULES) {
+                outers[rules] = f;
+                inners[rules] = g;
+                fusions[rules] = h;
+                rules++;
+            }
+            return rules;
         }
 
         int rewrite(int pass, int global) {
@@ -1293,7 +1273,7 @@ public final class LazyLoom {
                 return false;
             }
             int g = work.part(inner, 0);
-            int h = rules.of(work.numberOf(work.part(outer, 0)), work.numberOf(g));
+            int h = fusionOf(work.numberOf(work.part(outer, 0)), work.numberOf(g));
             if (h == NONE) {
                 return false;
             }
@@ -1302,31 +1282,49 @@ public final class LazyLoom {
             return true;
         }
 
+        /** What f of g is by the first rule of both; NONE without one. */
+        private int fusionOf(int f, int g) {
+            for (int rule = 0; rule < rules && rule < MOST_RULES; rule++) {
+                if (outers[rule] == f && inners[rule] == g) {
+                    return fusions[rule];
+                }
+            }
+            return NONE;
+        }
+
         private boolean isCall(int node) {
             return work.kindOf(node) == Kind.APP && work.kindOf(work.part(node, 0)) == Kind.GLOBAL;
         }
     }
 
-    /**
-     * Names with what they are, cells and data: a record each. A step makes at most one, so a run makes no more than
-     * a row holds, and a row that is made never moves.
-     */
+    /** As many records as a run can make at most, one with each step. */
+    private static final class Row {
+        static final int RECORDS = RUN_STEPS + MOST_SPARKS * SPARK_STEPS;
+
+        final long[] abouts;
+        final long[] ones;
+        final long[] twos;
+
+        Row() {
+            abouts = new long[RECORDS];
+            ones = new long[RECORDS];
+            twos = new long[RECORDS];
+        }
+    }
+
+    /** Names with what they are, cells and data: a record each, in rows that are made ahead of runs. */
     private static final class Heap {
         /** What a record is: a cell, found or not yet, one that is its own data, or names that are bound to things. */
         static final int WAITING = 0, BLACK = 1, FOUND = 2, DATA = 3, BOUND = 4;
 
-        private static final int ROW_RECORDS = RUN_STEPS + MOST_SPARKS * SPARK_STEPS;
-        private static final int LONGS = 3;
-        private static final int ABOUT = 0, ONE = 1, TWO = 2;
-
-        /** A record's first long: the record behind it and one, a node, two names, a centre, and what it is. */
+        /** What abouts tell: the record behind it and one, a node, two names, a centre, and what it is. */
         private static final int NODE_SHIFT = 20, NAME_SHIFT = 32, OTHER_SHIFT = 36, CENTRE_SHIFT = 40,
             STATE_SHIFT = 42;
         private static final int LINK_MASK = 0xFFFFF, NODE_MASK = 0xFFF, NAME_MASK = 0xF, CENTRE_MASK = 0x3;
 
         private final Program now;
         private final Program begun;
-        private final long[][] rows;
+        private final Row[] rows;
         private int manyRows;
         private int start;
         private int next;
@@ -1335,7 +1333,7 @@ public final class LazyLoom {
         Heap(Program now, Program begun) {
             this.now = now;
             this.begun = begun;
-            rows = new long[MOST_CALLS][];
+            rows = new Row[MOST_CALLS];
             manyRows = 0;
             start = 0;
             next = 0;
@@ -1350,7 +1348,7 @@ public final class LazyLoom {
             if (!now.hasFound() && !begun.hasFound()) {
                 next = 0;
             }
-            if (manyRows * ROW_RECORDS - next < ROW_RECORDS) {
+            if (manyRows * Row.RECORDS - next < Row.RECORDS) {
                 makeRow();
             }
             start = next;
@@ -1359,7 +1357,7 @@ public final class LazyLoom {
 
         private void makeRow() {
             if (manyRows < rows.length) {
-                rows[manyRows] = new long[LONGS * ROW_RECORDS];
+                rows[manyRows] = new Row();
                 manyRows++;
             } else {
                 // Each run makes a row at most, so this is behind the last call that has an answer.
@@ -1377,34 +1375,40 @@ public final class LazyLoom {
             }
         }
 
+        private Row rowOf(int record) {
+            return record >= 0 && record < manyRows * Row.RECORDS ? rows[record / Row.RECORDS] : null;
+        }
+
         private int make(long about, long one, long two) {
-            int record = next;
-            long[] row = record < manyRows * ROW_RECORDS ? rows[record / ROW_RECORDS] : null;
+            Row row = rowOf(next);
             if (row == null) {
                 return NONE;
             }
-            int at = LONGS * (record % ROW_RECORDS);
-            row[at + ABOUT] = about;
-            row[at + ONE] = one;
-            row[at + TWO] = two;
+            int at = next % Row.RECORDS;
+            row.abouts[at] = about;
+            row.ones[at] = one;
+            row.twos[at] = two;
             next++;
-            return record;
+            return next - 1;
         }
 
         private static long about(int link, int name, int other, int state) {
             return (long) state << STATE_SHIFT | (long) other << OTHER_SHIFT | (long) name << NAME_SHIFT | link + 1;
         }
 
-        private long get(int record, int which) {
-            long[] row = record >= 0 && record < next ? rows[record / ROW_RECORDS] : null;
-            return row == null ? 0L : row[LONGS * (record % ROW_RECORDS) + which];
+        private long aboutOf(int record) {
+            Row row = rowOf(record);
+            return row == null ? 0L : row.abouts[record % Row.RECORDS];
         }
 
-        private void put(int record, int which, long bits) {
-            long[] row = record >= 0 && record < next ? rows[record / ROW_RECORDS] : null;
-            if (row != null) {
-                row[LONGS * (record % ROW_RECORDS) + which] = bits;
-            }
+        private long oneOf(int record) {
+            Row row = rowOf(record);
+            return row == null ? Thing.NOTHING : row.ones[record % Row.RECORDS];
+        }
+
+        private long twoOf(int record) {
+            Row row = rowOf(record);
+            return row == null ? Thing.NOTHING : row.twos[record % Row.RECORDS];
         }
 
         /** The names of env and one more, which hides those of its own name. */
@@ -1414,7 +1418,7 @@ public final class LazyLoom {
 
         /** The names of env and those of two fields; that of the second one hides that of the first one. */
         int bindFields(int name, int other, int data, int env) {
-            return make(about(env, name, other, BOUND), get(data, ONE), get(data, TWO));
+            return make(about(env, name, other, BOUND), oneOf(data), twoOf(data));
         }
 
         /** The names of env and one more, whose cell that is; a node is to be found for it with all these names. */
@@ -1429,27 +1433,25 @@ public final class LazyLoom {
             if (cell == NONE) {
                 record = make(about(NONE, 0, 0, DATA) | (long) con << NODE_SHIFT, first, second);
             } else {
-                colour(cell, DATA);
-                put(cell, ONE, first);
-                put(cell, TWO, second);
+                write(cell, DATA, first, second);
             }
             return Thing.of(Thing.RECORD, record);
         }
 
         long lookUp(int name, int env) {
             int at = env;
-            for (int turn = 0; turn < MANY_TURNS && at >= 0 && at < next; turn++) {
-                long[] row = rows[at / ROW_RECORDS];
+            for (int turn = 0; turn < MANY_TURNS; turn++) {
+                Row row = rowOf(at);
                 if (row == null) {
                     break;
                 }
-                int first = LONGS * (at % ROW_RECORDS);
-                long about = row[first + ABOUT];
+                int place = at % Row.RECORDS;
+                long about = row.abouts[place];
                 if ((about >> OTHER_SHIFT & NAME_MASK) == name) {
-                    return about >> STATE_SHIFT == BOUND ? row[first + TWO] : Thing.of(Thing.CELL, at);
+                    return about >> STATE_SHIFT == BOUND ? row.twos[place] : Thing.of(Thing.CELL, at);
                 }
                 if ((about >> NAME_SHIFT & NAME_MASK) == name) {
-                    return row[first + ONE];
+                    return row.ones[place];
                 }
                 at = (int) (about & LINK_MASK) - 1;
             }
@@ -1457,7 +1459,7 @@ public final class LazyLoom {
         }
 
         int stateOf(int cell) {
-            return (int) (get(cell, ABOUT) >> STATE_SHIFT);
+            return (int) (aboutOf(cell) >> STATE_SHIFT);
         }
 
         boolean isFound(int cell) {
@@ -1467,28 +1469,36 @@ public final class LazyLoom {
 
         /** What a cell has that was found. */
         long valueOf(int cell) {
-            return stateOf(cell) == DATA ? Thing.of(Thing.RECORD, cell) : get(cell, ONE);
+            return stateOf(cell) == DATA ? Thing.of(Thing.RECORD, cell) : oneOf(cell);
         }
 
         /** What is to be found for a cell, or the CON that data is. */
         int nodeOf(int record) {
-            return (int) (get(record, ABOUT) >> NODE_SHIFT) & NODE_MASK;
+            return (int) (aboutOf(record) >> NODE_SHIFT) & NODE_MASK;
         }
 
         int centreOf(int cell) {
-            return (int) (get(cell, ABOUT) >> CENTRE_SHIFT) & CENTRE_MASK;
+            return (int) (aboutOf(cell) >> CENTRE_SHIFT) & CENTRE_MASK;
         }
 
         void colour(int cell, int state) {
-            long rest = get(cell, ABOUT) & (1L << STATE_SHIFT) - 1;
-            put(cell, ABOUT, (long) state << STATE_SHIFT | rest);
+            write(cell, state, oneOf(cell), twoOf(cell));
         }
 
         void fill(int cell, long thing) {
-            colour(cell, FOUND);
-            put(cell, ONE, thing);
+            write(cell, FOUND, thing, Thing.NOTHING);
             if (cell < start) {
                 keep(thing);
+            }
+        }
+
+        private void write(int cell, int state, long one, long two) {
+            Row row = rowOf(cell);
+            if (row != null) {
+                int at = cell % Row.RECORDS;
+                row.abouts[at] = (long) state << STATE_SHIFT | row.abouts[at] & (1L << STATE_SHIFT) - 1;
+                row.ones[at] = one;
+                row.twos[at] = two;
             }
         }
     }
