@@ -21,6 +21,7 @@ public final class OracleTest {
     private final int[] types = new int[8];
     private int own;
     private final boolean isWild;
+    private boolean isAim = false;
 
     private OracleTest(Pair pair) {
         this.pair = pair;
@@ -103,8 +104,13 @@ public final class OracleTest {
         }
     }
 
-    /** FUSE stays away, since a rule makes what it says, whether that is the same or not. */
+    /**
+     * FUSE stays away, since a rule makes what it says, whether that is the same or not. So does CATCH: since RAISE needs
+     * all names, STRICTLY may find what has no end ahead of what would be raised, and a CATCH tells them apart. And so do
+     * fields that are not there: a LET of a SEQ with such a CON is WRONG when it is found, that of the CON at once.
+     */
     private void aim() {
+        isAim = true;
         int globals = 2 + random(7);
         for (int g = 0; g < globals; g++) {
             lams[g] = random(3);
@@ -216,6 +222,9 @@ public final class OracleTest {
             case 6:
                 return pair.seq(tell(random(3), left / 2, globals), tell(type, left / 2, globals));
             case 7: {
+                if (isAim) {
+                    return tellOwn(type, left, globals);
+                }
                 int held = tell(type, left / 2, globals);
                 int x = random(names);
                 return pair.hold(held, x, tellIn(x, x, NUMBERS, type, left / 2, globals));
@@ -336,7 +345,7 @@ public final class OracleTest {
             return pair.global(random(8));
         }
         if (type == DATA && pair.told < 195) {
-            int fields = random(3);
+            int fields = isAim ? 2 : random(3);
             int first = fields > 0 ? leaf(NUMBERS, globals) : LazyLoom.NONE;
             int second = fields > 1 ? leaf(NUMBERS, globals) : LazyLoom.NONE;
             return pair.con(random(3), first, second);
