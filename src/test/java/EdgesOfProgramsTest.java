@@ -29,6 +29,7 @@ public final class EdgesOfProgramsTest {
         firstLams();
         atomsOfGlobals();
         roundAndRound();
+        manyRounds();
         aheadOfThePass();
         places();
         Check.end("EdgesOfProgramsTest");
@@ -536,6 +537,42 @@ public final class EdgesOfProgramsTest {
         Check.due("promise 25: an atom that is a GLOBAL", needed("(lam x0 (app g1 g1))", 0, others), 0);
         Check.due("promise 25: for the outer one", needed("(lam x0 (app (app g5 x0) 1))", 0, others), 0);
         Check.due("promise 25: for the inner one", needed("(lam x0 (app (app g5 1) x0))", 0, others), 1);
+    }
+
+    /** "looked again and again": 40 times, in which one name after the other goes away, or none does. */
+    private static void manyRounds() {
+        for (int first = 0; first <= 1; first++) {
+            loom = new LazyLoom();
+            int[] names = new int[10];
+            for (int x = 0; x < 10; x++) {
+                names[x] = loom.var(x);
+            }
+            int one = loom.num(1);
+            for (int g = 0; g < 4; g++) {
+                // each name is what the one ahead of it is in the call of itself; the first one, in that of the global ahead
+                int again = loom.global(g);
+                for (int x = 1; x <= 10; x++) {
+                    again = loom.app(again, x < 10 ? names[x] : one);
+                }
+                int others = g == 0 && first == 0 ? one : g == 0 ? names[0] : loom.global(g - 1);
+                for (int x = 1; x <= 10 && g > 0; x++) {
+                    others = loom.app(others, x < 10 ? one : names[0]);
+                }
+                for (int x = 1; x < 10; x++) {
+                    others = loom.seq(others, names[x]);
+                }
+                int node = loom.choose(one, loom.seq(names[0], again), others);
+                for (int x = 9; x >= 0; x--) {
+                    node = loom.lam(x, node);
+                }
+                Check.due("promise 17: ten LAMs", loom.define(g, node) > 0 ? 1 : 0, 1);
+            }
+            for (int g = 0; g < 4; g++) {
+                for (int place = 0; place < 10; place++) {
+                    Check.due("promise 25: " + g + ", " + place, loom.needed(g, place), first);
+                }
+            }
+        }
     }
 
     /** "All of all globals are needed at first; then it is looked again and again, .., until nothing is otherwise." */

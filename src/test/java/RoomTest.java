@@ -19,6 +19,7 @@ public final class RoomTest {
             passes(isSecond, loom);
             growing(isSecond);
             keeping(isSecond);
+            forgetting(isSecond);
             endless(isSecond);
         }
         Check.end("RoomTest");
@@ -112,6 +113,20 @@ public final class RoomTest {
             loom.run(i % 3 == 0 ? 3 : 4, 1, i * -1640531535 + 1, 0, 0, false);
         }
         atMost(isCounted, "all calls that may come", made() - ahead, KEPT_BYTES + OTHER_BYTES);
+    }
+
+    /** Where cells are forgotten again and again, what they had is written over. */
+    private static void forgetting(boolean isCounted) {
+        LazyLoom loom = new LazyLoom();
+        Words.define(loom, 0, "(let x0 (+ 1 2) (seq x0 (con 1 x0 x0)))");
+        int same = Words.of("(app (lam x1 (let x0 (+ 1 2) (seq x0 (con 1 x0 x0)))) 1)").tell(loom);
+        long ahead = made();
+        for (int i = 0; i < 250; i++) {
+            loom.define(0, same);
+            loom.run(0, 0, 0, 0, 0, false);
+        }
+        atMost(isCounted, "cells that are forgotten", made() - ahead, LONG_BYTES);
+        Check.due("data", loom.value(), 12);
     }
 
     /** The dearest run: 600 steps, and four sparks with 200 each. */
